@@ -1,0 +1,61 @@
+/** Counts and prints the calls whose answer is not the one that is due. */
+final class Checks {
+    static final long MOST_AT_ONCE = 10_000_000_000_000_000L;
+
+    private int wrong = 0;
+
+    void due(String call, long got, long want) {
+        if (got != want) {
+            wrong++;
+            System.out.println(call + " answered " + got + ", due is " + want);
+        }
+    }
+
+    void due(String call, boolean got, boolean want) {
+        due(call, got ? 1 : 0, want ? 1 : 0);
+    }
+
+    void due(String call, String got, String want) {
+        if (!got.equals(want)) {
+            wrong++;
+            System.out.println(call + " answered '" + got + "', due is '" + want + "'");
+        }
+    }
+
+    void dueStatement(String when, DayDesk desk, int position, long... want) {
+        for (int what = 0; what < 5; what++) {
+            due(when + ": row(" + position + ", " + what + ")", desk.row(position, what), want[what]);
+        }
+    }
+
+    void dueTime(String when, DayDesk desk, int day, int tick) {
+        due(when + ": look(0)", desk.look(0), day);
+        due(when + ": look(1)", desk.look(1), tick);
+    }
+
+    static DayDesk deskAt(int tick) {
+        DayDesk desk = new DayDesk();
+        if (tick > 0) {
+            desk.skip(tick);
+        }
+        return desk;
+    }
+
+    /** The row that was written last, by at alone. */
+    static String lastRow(DayDesk desk) {
+        StringBuilder text = new StringBuilder();
+        int c = desk.at(0);
+        for (int i = 1; i < 200 && c != -1; i++) {
+            text.append((char) c);
+            c = desk.at(i);
+        }
+        return text.toString();
+    }
+
+    void end() {
+        System.out.println(wrong == 0 ? "all answers are as due" : wrong + " answers are not as due");
+        if (wrong != 0) {
+            System.exit(1);
+        }
+    }
+}
