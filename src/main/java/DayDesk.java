@@ -132,7 +132,7 @@ public final class DayDesk {
         if (v == 0) {
             return 0;
         }
-        // No sum here can wrap: what is held and one move together stay far below 2 ^ 63.
+        // No sum here can wrap: 9 * 10 ^ 18 and one move of 10 ^ 16 together stay below 2 ^ 63.
         long newNow = now[position] + v;
         long newWent = went[position] + (v < 0 ? -v : 0);
         long newCame = came[position] + (v > 0 ? v : 0);

@@ -40,6 +40,18 @@ public final class WriteTest {
             oneMove(checks, 9 * (v / 10) + 7);
         }
         oneMove(checks, 1234567890123456L);
+        nineteenDigits(checks);
+    }
+
+    private static void nineteenDigits(Checks checks) {
+        DayDesk desk = new DayDesk();
+        for (int i = 0; i < 99; i++) {
+            desk.move(6, Checks.MOST_AT_ONCE);
+        }
+        desk.move(6, Checks.MOST_AT_ONCE - 1);
+        dueRow(checks, desk, 6, "0 0 999999999999999999 999999999999999999 100");
+        desk.move(6, 1);
+        dueRow(checks, desk, 6, "0 0 1000000000000000000 1000000000000000000 101");
     }
 
     private static void oneMove(Checks checks, long v) {
