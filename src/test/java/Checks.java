@@ -3,11 +3,17 @@ final class Checks {
     static final long MOST_AT_ONCE = 10_000_000_000_000_000L;
 
     private int wrong = 0;
+    private String sentence = "";
+
+    /** The document's words that the checks from here on stand for; a wrong answer is printed with them. */
+    void sentence(String words) {
+        sentence = "\"" + words + "\": ";
+    }
 
     void due(String call, long got, long want) {
         if (got != want) {
             wrong++;
-            System.out.println(call + " answered " + got + ", due is " + want);
+            System.out.println(sentence + call + " answered " + got + ", due is " + want);
         }
     }
 
@@ -18,7 +24,7 @@ final class Checks {
     void due(String call, String got, String want) {
         if (!got.equals(want)) {
             wrong++;
-            System.out.println(call + " answered '" + got + "', due is '" + want + "'");
+            System.out.println(sentence + call + " answered '" + got + "', due is '" + want + "'");
         }
     }
 
@@ -31,6 +37,25 @@ final class Checks {
     void dueTime(String when, DayDesk desk, int day, int tick) {
         due(when + ": look(0)", desk.look(0), day);
         due(when + ": look(1)", desk.look(1), tick);
+    }
+
+    /** What an object shows of itself in some 180 calls: time, statements of five positions, the row written last. */
+    static String shown(DayDesk desk) {
+        StringBuilder text = new StringBuilder();
+        for (int what = 0; what < 5; what++) {
+            text.append(desk.look(what)).append(' ');
+        }
+        int[] positions = {0, 1, 7, 198, 199};
+        for (int position : positions) {
+            text.append(position).append(desk.isTold(position) ? '+' : '-');
+            for (int what = 0; what < 5; what++) {
+                text.append(desk.row(position, what)).append(' ');
+            }
+        }
+        for (int i = 0; i < 110; i++) {
+            text.append(desk.at(i)).append(' ');
+        }
+        return text.toString();
     }
 
     static DayDesk deskAt(int tick) {
