@@ -39,12 +39,13 @@ final class Checks {
         due(when + ": look(1)", desk.look(1), tick);
     }
 
-    /** What an object shows of itself in some 180 calls: time, statements of five positions, the row written last. */
+    /** What an object shows of itself in 145 calls: time, statements of five positions, the row written last. */
     static String shown(DayDesk desk) {
         StringBuilder text = new StringBuilder();
         for (int what = 0; what < 5; what++) {
             text.append(desk.look(what)).append(' ');
         }
+        text.append('|');
         int[] positions = {0, 1, 7, 198, 199};
         for (int position : positions) {
             text.append(position).append(desk.isTold(position) ? '+' : '-');

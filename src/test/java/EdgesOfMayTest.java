@@ -21,7 +21,6 @@ public final class EdgesOfMayTest {
         test.priorityAndMoneyMatterForPayAlone();
         test.priorityAndMoneyMatterInTheirPhaseAlone();
         test.noSuchKind();
-        test.askingChangesNothing();
         test.checks.end();
     }
 
@@ -144,16 +143,6 @@ public final class EdgesOfMayTest {
                 due(tick, kind, 9, false, false);
             }
         }
-    }
-
-    private void askingChangesNothing() {
-        checks.sentence("Nothing is promised beyond the answers and state changes described above");
-        DayDesk desk = Checks.deskAt(750);
-        String due = Checks.shown(desk);
-        desk.may(PAY, 5, false);
-        desk.may(PAY, 4, true);
-        desk.may(15, 0, true);
-        checks.due("shown", Checks.shown(desk), due);
     }
 
     private void due(int time, int kind, int priority, boolean money, boolean want) {

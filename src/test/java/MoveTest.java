@@ -10,9 +10,7 @@ public final class MoveTest {
         theLargestMoves(checks);
         refused(checks);
         movesInEveryPhase(checks);
-        limitUpwards(checks);
-        limitDownwards(checks);
-        limitOfWhatWentAndCame(checks);
+        aMoveChangesNothingElse(checks);
         checks.end();
     }
 
@@ -73,55 +71,13 @@ public final class MoveTest {
         }
     }
 
-    // The limit of 9 * 10 ^ 18 takes 900 moves, more than the calls an object is promised for;
-    // these three show that the test of it stands nevertheless.
-
-    private static void limitUpwards(Checks checks) {
-        DayDesk desk = new DayDesk();
-        moveOften(checks, desk, MOST, 450);
-        desk.skip(1000);
-        moveOften(checks, desk, MOST, 450);
-        long limit = 900 * MOST;
-        checks.due("above the limit", desk.move(9, 1), -1);
-        checks.due("above the limit", desk.move(9, MOST), -1);
-        checks.dueStatement("at the limit", desk, 9, limit / 2, 0, limit / 2, limit, 450);
-        checks.due("away from the limit", desk.move(9, -1), 1);
-        checks.due("to the limit", desk.move(9, 1), 1);
-    }
-
-    private static void limitDownwards(Checks checks) {
-        DayDesk desk = new DayDesk();
-        moveOften(checks, desk, -MOST, 450);
-        desk.skip(1000);
-        moveOften(checks, desk, -MOST, 450);
-        long limit = 900 * MOST;
-        checks.due("below the limit", desk.move(9, -1), -1);
-        checks.due("below the limit", desk.move(9, -MOST), -1);
-        checks.dueStatement("at the limit", desk, 9, -limit / 2, limit / 2, 0, -limit, 450);
-        checks.due("away from the limit", desk.move(9, 1), 1);
-        desk.skip(1000);
-        checks.due("write(9)", desk.write(9), 20 + 1 + 1 + 1 + 1 + 1 + 20 + 1 + 1);
-        checks.due("row", Checks.lastRow(desk), "-8999999999999999999 0 0 -8999999999999999999 0");
-    }
-
-    private static void limitOfWhatWentAndCame(Checks checks) {
-        DayDesk desk = new DayDesk();
-        for (int i = 0; i < 900; i++) {
-            checks.due("to", desk.move(9, MOST), 1);
-            checks.due("fro", desk.move(9, -MOST), 1);
-        }
-        long limit = 900 * MOST;
-        checks.due("came above the limit", desk.move(9, 1), -1);
-        checks.due("went above the limit", desk.move(9, -1), -1);
-        checks.due("no move", desk.move(9, 0), 0);
-        checks.dueStatement("to and fro", desk, 9, 0, limit, limit, 0, 1800);
-        desk.skip(1000);
-        checks.due("on the next day", desk.move(9, 1), 1);
-    }
-
-    private static void moveOften(Checks checks, DayDesk desk, long v, int times) {
-        for (int i = 0; i < times; i++) {
-            checks.due("move(9, " + v + ")", desk.move(9, v), 1);
-        }
+    private static void aMoveChangesNothingElse(Checks checks) {
+        DayDesk desk = Checks.deskAt(555);
+        desk.move(6, -4);
+        desk.write(6);
+        String due = Checks.shown(desk);
+        desk.move(5, 9);
+        desk.move(8, -9);
+        checks.due("shown of time, other positions and the row", Checks.shown(desk), due);
     }
 }
